@@ -258,6 +258,7 @@ public final class PromisesTest {
         due.same("12: at place 0", Typing.built("aa").repeat(), 128);
         due.same("12: the least place of all so long", Typing.built("zqzqabab").repeat(), 128 * 2);
         due.same("12: the least place though later in the order", Typing.built("-zz+zz.aa,aa").repeat(), 128 * 2 + 1);
+        due.same("12: the least place though earlier in the order", Typing.built("-aa+aa.zz,zz").repeat(), 128 * 2 + 1);
         due.same("12: the longest, not the first", Typing.built("aabcdbcd").repeat(), 128 * 3 + 2);
         due.same("12: the least of three places", Typing.built("-ab.ab,ab").repeat(), 128 * 2 + 1);
         due.same("12: 96 alike", Typing.built(FULL_ROW).repeat(), 128 * 95);
