@@ -19,6 +19,17 @@ final class Model {
     private String text = "";
     private String pattern = "";
     private List<String> order = orderOf("");
+    private List<Integer> column = columnOf("");
+
+    Model() {
+    }
+
+    /** What calls would have left that made these the text, the pattern and the typed bytes. */
+    Model(String text, String pattern, String typed) {
+        setText(text);
+        this.pattern = pattern;
+        this.typed = typed;
+    }
 
     static List<String> orderOf(String text) {
         List<String> order = new ArrayList<>();
@@ -41,18 +52,19 @@ final class Model {
     private void setText(String row) {
         text = row;
         order = orderOf(row);
+        column = columnOf(row);
     }
 
-    int typedCount() {
-        return typed.length();
-    }
-
-    int patternLength() {
-        return pattern.length();
+    String typed() {
+        return typed;
     }
 
     String text() {
         return text;
+    }
+
+    String pattern() {
+        return pattern;
     }
 
     int type(long bits, int n) {
@@ -94,7 +106,7 @@ final class Model {
     }
 
     int column(int rank) {
-        return rank < 0 || rank >= order.size() ? BAD : columnOf(text).get(rank);
+        return rank < 0 || rank >= order.size() ? BAD : column.get(rank);
     }
 
     int common(int rank) {
@@ -119,7 +131,6 @@ final class Model {
         for (int b = 0; b < 256; b++) {
             list.add(b);
         }
-        List<Integer> column = columnOf(text);
         int number = 0;
         for (int r = 0; r <= rank; r++) {
             number = list.indexOf(column.get(r));
@@ -207,14 +218,14 @@ final class Model {
         if (k < 0 || k > typed.length()) {
             return BAD;
         }
-        List<Integer> column = new ArrayList<>();
+        List<Integer> wanted = new ArrayList<>();
         for (int i = 0; i < typed.length(); i++) {
-            column.add((int) typed.charAt(i));
+            wanted.add((int) typed.charAt(i));
         }
-        column.add(k, NONE);
+        wanted.add(k, NONE);
         typed = "";
-        String candidate = candidateFor(column);
-        if (!columnOf(candidate).equals(column)) {
+        String candidate = candidateFor(wanted);
+        if (!columnOf(candidate).equals(wanted)) {
             return NOT;
         }
         setText(candidate);

@@ -3,12 +3,14 @@ import java.util.HashMap;
 import java.util.List;
 import java.util.Map;
 import java.util.Random;
-import java.util.function.IntSupplier;
 
 /** Compares ColumnIndex with the model: on all small texts and columns, and on long mixed runs. */
 public final class ModelTest {
     private static final String SMALL_ALPHABET = "\u0000\u0001\u00ff";
     private static final int[] ODD_NUMBERS = {-1, -2, 96, 97, 98, 128, 255, 256, 257, Integer.MAX_VALUE, Integer.MIN_VALUE};
+    private static final int MOST_CALLS = 512;
+    /** So few that a run can be played again with every question behind it. */
+    private static final int CALLS_BEFORE_QUESTIONS = 200;
     private static final Due due = new Due();
 
     private ModelTest() {
@@ -19,7 +21,10 @@ public final class ModelTest {
         allSmallColumns();
         longTexts();
         for (int seed = 1; seed <= 300 && !due.anyWrong(); seed++) {
-            mixedRun(seed);
+            mixedRun(seed, MOST_CALLS);
+        }
+        for (int seed = 301; seed <= 600 && !due.anyWrong(); seed++) {
+            mixedRun(seed, 1 + seed % CALLS_BEFORE_QUESTIONS);
         }
         due.end();
     }
@@ -34,31 +39,7 @@ public final class ModelTest {
     }
 
     private static void compareText(String text) {
-        ColumnIndex x = new ColumnIndex();
-        Model m = new Model();
-        typeBoth(x, m, text);
-        due.same("build()", x.build(), m.build());
-        compareTold(x, m, "text " + shown(text));
-    }
-
-    /** Everything that can be asked of the text and the pattern without changing them. */
-    private static void compareTold(ColumnIndex x, Model m, String where) {
-        due.same(where + ": size()", x.size(), m.size());
-        for (int i = -1; i <= m.size() + 1; i++) {
-            due.same(where + ": at(" + i + ")", x.at(i), m.at(i));
-            due.same(where + ": suffix(" + i + ")", x.suffix(i), m.suffix(i));
-            due.same(where + ": rank(" + i + ")", x.rank(i), m.rank(i));
-            due.same(where + ": column(" + i + ")", x.column(i), m.column(i));
-            due.same(where + ": common(" + i + ")", x.common(i), m.common(i));
-            due.same(where + ": moved(" + i + ")", x.moved(i), m.moved(i));
-            due.same(where + ": hit(" + i + ")", x.hit(i), m.hit(i));
-        }
-        for (int p = -1; p <= m.patternLength() + 1; p++) {
-            due.same(where + ": match(" + p + ")", x.match(p), m.match(p));
-        }
-        due.same(where + ": distinct()", x.distinct(), m.distinct());
-        due.same(where + ": repeat()", x.repeat(), m.repeat());
-        due.same(where + ": before()", x.before(), m.before());
+        new Run(due, "text " + shown(text)).text(text).leaves(text, "", "");
     }
 
     /** A column has a text just when one of all the texts of its length has that column. */
@@ -96,15 +77,12 @@ public final class ModelTest {
         }
         column.add(k, ColumnIndex.NONE);
         String text = textOf.get(column);
-        ColumnIndex x = Typing.built("old");
-        Typing.type(x, row);
-        due.same("revert of " + column, x.revert(k), text == null ? ColumnIndex.NOT : text.length());
-        String wanted = text == null ? "old" : text;
-        due.same("size() after revert of " + column, x.size(), wanted.length());
-        for (int place = 0; place < wanted.length(); place++) {
-            due.same("at(" + place + ") after revert of " + column, x.at(place), wanted.charAt(place));
+        Run run = new Run(due, "column " + column).text("old").pattern("l").typed(row);
+        if (text == null) {
+            run.revert(k, ColumnIndex.NOT).leaves("old", "l", "");
+        } else {
+            run.revert(k, text.length()).leaves(text, "l", "");
         }
-        due.same("nothing is typed after revert of " + column, x.type(0, 1), 1);
     }
 
     /** Long texts that repeat themselves, forth and back by their columns, with long patterns. */
@@ -130,104 +108,6 @@ public final class ModelTest {
     }
 
     private static void compareReverted(String text) {
-        ColumnIndex x = new ColumnIndex();
-        Model m = new Model();
-        int k = typeColumnBoth(x, m, text);
-        due.same("revert to " + shown(text), x.revert(k), m.revert(k));
-        due.holds("the model reverts to " + shown(text), m.text().equals(text));
-        compareTold(x, m, "reverted text " + shown(text));
-    }
-
-    private static void comparePatterns(Random random, String text) {
-        ColumnIndex x = new ColumnIndex();
-        Model m = new Model();
-        typeBoth(x, m, text);
-        due.same("build()", x.build(), m.build());
-        String cut = text.substring(random.nextInt(text.length()));
-        for (String pattern : new String[] {text, cut, cut + "\u0000", cut + "\u00ff", "\u00ff" + cut, ""}) {
-            String typed = pattern.substring(0, Math.min(96, pattern.length()));
-            typeBoth(x, m, typed);
-            due.same("seek() of " + shown(typed), x.seek(), m.seek());
-            compareTold(x, m, "pattern " + shown(typed) + " in " + shown(text));
-        }
-        for (int i = text.length() - 1; i >= 0; i--) {
-            int b = text.charAt(i);
-            due.same("extend(" + b + ") in " + shown(text), x.extend(b), m.extend(b));
-        }
-        compareTold(x, m, "extended to the text " + shown(text));
-    }
-
-    private static void mixedRun(int seed) {
-        Random random = new Random(seed);
-        int kinds = new int[] {1, 2, 2, 3, 5, 256}[random.nextInt(6)];
-        int longest = new int[] {2, 8, 8, 8}[random.nextInt(4)];
-        ColumnIndex x = new ColumnIndex();
-        Model m = new Model();
-        for (int call = 1; call <= 512 && !due.anyWrong(); call++) {
-            String where = "run " + seed + ", call " + call;
-            int kind = random.nextInt(24);
-            if (kind < 7) {
-                int n = random.nextInt(30) == 0 ? odd(random) : 1 + random.nextInt(longest);
-                long bits = Typing.bits(row(random, 8, kinds));
-                due.same(where + ": type(" + bits + ", " + n + ")", x.type(bits, n), m.type(bits, n));
-            } else {
-                mixedCall(x, m, where, kind, random);
-            }
-        }
-        compareTold(x, m, "run " + seed + " at its end");
-    }
-
-    private static void mixedCall(ColumnIndex x, Model m, String where, int kind, Random random) {
-        int k = random.nextInt(12) == 0 ? odd(random) : random.nextInt(m.size() + 2);
-        switch (kind) {
-            case 7 -> due.same(where + ": size()", x.size(), m.size());
-            case 8 -> due.same(where + ": at(" + k + ")", x.at(k), m.at(k));
-            case 9 -> due.same(where + ": suffix(" + k + ")", x.suffix(k), m.suffix(k));
-            case 10 -> due.same(where + ": rank(" + k + ")", x.rank(k), m.rank(k));
-            case 11 -> due.same(where + ": column(" + k + ")", x.column(k), m.column(k));
-            case 12 -> due.same(where + ": common(" + k + ")", x.common(k), m.common(k));
-            case 13 -> due.same(where + ": moved(" + k + ")", x.moved(k), m.moved(k));
-            case 14 -> due.same(where + ": distinct()", x.distinct(), m.distinct());
-            case 15 -> due.same(where + ": repeat()", x.repeat(), m.repeat());
-            case 16 -> due.same(where + ": before()", x.before(), m.before());
-            case 17 -> due.same(where + ": hit(" + k + ")", x.hit(k), m.hit(k));
-            case 18 -> {
-                int p = random.nextInt(m.patternLength() + 3) - 1;
-                due.same(where + ": match(" + p + ")", x.match(p), m.match(p));
-            }
-            case 19, 20 -> {
-                int b = m.size() == 0 || random.nextInt(8) == 0 ? odd(random) : m.at(random.nextInt(m.size()));
-                due.same(where + ": extend(" + b + ")", x.extend(b), m.extend(b));
-            }
-            case 21 -> rarely(random, m, where + ": build()", () -> x.build(), () -> m.build());
-            case 22 -> due.same(where + ": seek()", x.seek(), m.seek());
-            default -> {
-                int r = random.nextInt(4) == 0 ? odd(random) : random.nextInt(m.typedCount() + 1);
-                rarely(random, m, where + ": revert(" + r + ")", () -> x.revert(r), () -> m.revert(r));
-            }
-        }
-    }
-
-    /** What takes the typed bytes comes seldom while they are few, so that some runs fill them up. */
-    private static void rarely(Random random, Model m, String call, IntSupplier got, IntSupplier want) {
-        if (random.nextInt(96) < m.typedCount() + 8) {
-            due.same(call, got.getAsInt(), want.getAsInt());
-        }
-    }
-
-    private static int odd(Random random) {
-        return ODD_NUMBERS[random.nextInt(ODD_NUMBERS.length)];
-    }
-
-    private static void typeBoth(ColumnIndex x, Model m, String row) {
-        Typing.type(x, row);
-        for (char b : row.toCharArray()) {
-            m.type(b, 1);
-        }
-    }
-
-    /** Types a text's column; answers where NONE stands in it. */
-    private static int typeColumnBoth(ColumnIndex x, Model m, String text) {
         List<Integer> column = Model.columnOf(text);
         int k = column.indexOf(ColumnIndex.NONE);
         StringBuilder row = new StringBuilder();
@@ -236,8 +116,89 @@ public final class ModelTest {
                 row.append((char) symbol);
             }
         }
-        typeBoth(x, m, row.toString());
-        return k;
+        new Run(due, "the column of " + shown(text)).typed(row.toString()).revert(k, text.length()).leaves(text, "", "");
+    }
+
+    private static void comparePatterns(Random random, String text) {
+        String cut = text.substring(random.nextInt(text.length()));
+        for (String pattern : new String[] {text, cut, cut + "\u0000", cut + "\u00ff", "\u00ff" + cut, ""}) {
+            String typed = pattern.substring(0, Math.min(96, pattern.length()));
+            Model m = new Model(text, "", typed);
+            new Run(due, "pattern " + shown(typed) + " in " + shown(text)).text(text).typed(typed).seek(m.seek()).tells(m);
+        }
+        Run run = new Run(due, "extended to the text " + shown(text)).text(text);
+        Model m = new Model(text, "", "");
+        for (int i = text.length() - 1; i >= 0; i--) {
+            run.extend(text.charAt(i), m.extend(text.charAt(i)));
+        }
+        run.tells(m);
+    }
+
+    private static void mixedRun(int seed, int calls) {
+        Random random = new Random(seed);
+        int kinds = new int[] {1, 2, 2, 3, 5, 256}[random.nextInt(6)];
+        int longest = new int[] {2, 8, 8, 8}[random.nextInt(4)];
+        Run run = new Run(due, "run " + seed);
+        Model m = new Model();
+        while (run.callsMade() < calls) {
+            int kind = random.nextInt(24);
+            if (kind < 7) {
+                int n = random.nextInt(30) == 0 ? odd(random) : 1 + random.nextInt(longest);
+                long bits = Typing.bits(row(random, 8, kinds));
+                run.type(bits, n, m.type(bits, n));
+            } else {
+                mixedCall(run, m, kind, random);
+            }
+        }
+        if (calls <= CALLS_BEFORE_QUESTIONS) {
+            run.tells(m);
+        }
+    }
+
+    private static void mixedCall(Run run, Model m, int kind, Random random) {
+        int k = random.nextInt(12) == 0 ? odd(random) : random.nextInt(m.size() + 2);
+        switch (kind) {
+            case 7 -> run.size(m.size());
+            case 8 -> run.at(k, m.at(k));
+            case 9 -> run.suffix(k, m.suffix(k));
+            case 10 -> run.rank(k, m.rank(k));
+            case 11 -> run.column(k, m.column(k));
+            case 12 -> run.common(k, m.common(k));
+            case 13 -> run.moved(k, m.moved(k));
+            case 14 -> run.distinct(m.distinct());
+            case 15 -> run.repeat(m.repeat());
+            case 16 -> run.before(m.before());
+            case 17 -> run.hit(k, m.hit(k));
+            case 18 -> {
+                int p = random.nextInt(m.pattern().length() + 3) - 1;
+                run.match(p, m.match(p));
+            }
+            case 19, 20 -> {
+                int b = m.size() == 0 || random.nextInt(8) == 0 ? odd(random) : m.at(random.nextInt(m.size()));
+                run.extend(b, m.extend(b));
+            }
+            case 21 -> {
+                if (isTimely(random, m)) {
+                    run.build(m.build());
+                }
+            }
+            case 22 -> run.seek(m.seek());
+            default -> {
+                int r = random.nextInt(4) == 0 ? odd(random) : random.nextInt(m.typed().length() + 1);
+                if (isTimely(random, m)) {
+                    run.revert(r, m.revert(r));
+                }
+            }
+        }
+    }
+
+    /** What takes the typed bytes comes seldom while they are few, so that some runs fill them up. */
+    private static boolean isTimely(Random random, Model m) {
+        return random.nextInt(96) < m.typed().length() + 8;
+    }
+
+    private static int odd(Random random) {
+        return ODD_NUMBERS[random.nextInt(ODD_NUMBERS.length)];
     }
 
     private static String row(Random random, int length, int kinds) {
