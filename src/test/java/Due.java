@@ -9,6 +9,14 @@ final class Due {
         }
     }
 
+    /** For a call that BAD and FULL both fit: the document names no order of the two. */
+    void refused(String call, int got) {
+        if (got != ColumnIndex.BAD && got != ColumnIndex.FULL) {
+            wrong++;
+            System.out.println(call + " answered " + got + ", due is BAD or FULL");
+        }
+    }
+
     void holds(String fact, boolean held) {
         if (!held) {
             wrong++;

@@ -67,6 +67,15 @@ final class Model {
         return pattern;
     }
 
+    /** The document names no order of the two refusals; where both fit, this model answers BAD. */
+    boolean bothRefuseType(int n) {
+        return n > 8 && n > 96 - typed.length();
+    }
+
+    boolean bothRefuseExtend(int b) {
+        return (b < 0 || b > 255) && pattern.length() == 96;
+    }
+
     int type(long bits, int n) {
         if (n < 1 || n > 8) {
             return BAD;

@@ -145,13 +145,29 @@ public final class ModelTest {
             if (kind < 7) {
                 int n = random.nextInt(30) == 0 ? odd(random) : 1 + random.nextInt(longest);
                 long bits = Typing.bits(row(random, 8, kinds));
-                run.type(bits, n, m.type(bits, n));
+                mixedType(run, m, bits, n);
             } else {
                 mixedCall(run, m, kind, random);
             }
         }
         if (calls <= CALLS_BEFORE_QUESTIONS) {
             run.tells(m);
+        }
+    }
+
+    private static void mixedType(Run run, Model m, long bits, int n) {
+        if (m.bothRefuseType(n)) {
+            run.typeRefused(bits, n);
+        } else {
+            run.type(bits, n, m.type(bits, n));
+        }
+    }
+
+    private static void mixedExtend(Run run, Model m, int b) {
+        if (m.bothRefuseExtend(b)) {
+            run.extendRefused(b);
+        } else {
+            run.extend(b, m.extend(b));
         }
     }
 
@@ -175,7 +191,7 @@ public final class ModelTest {
             }
             case 19, 20 -> {
                 int b = m.size() == 0 || random.nextInt(8) == 0 ? odd(random) : m.at(random.nextInt(m.size()));
-                run.extend(b, m.extend(b));
+                mixedExtend(run, m, b);
             }
             case 21 -> {
                 if (isTimely(random, m)) {

@@ -144,8 +144,8 @@ public final class PatternBoundariesTest {
         run(name).text(RISING).pattern(RISING).typed(ALIKE).extend(0, FULL).leaves(RISING, RISING, ALIKE);
         run(name).text(RISING).pattern(RISING).typed(ALIKE).extend(255, FULL).leaves(RISING, RISING, ALIKE);
         run(name).pattern(RISING).extend(160, FULL).leaves("", RISING, "");
-        // Both refusals fit; BAD stands first in the document.
-        run(name).text(RISING).pattern(RISING).extend(256, BAD).extend(-1, BAD).leaves(RISING, RISING, "");
+        run("14: BAD or FULL when b is no byte and it has 96 bytes").text(RISING).pattern(RISING)
+                .extendRefused(256).extendRefused(-1).leaves(RISING, RISING, "");
     }
 
     private static void extendAfterFull() {

@@ -28,6 +28,11 @@ final class Run {
         return call("type(" + bits + ", " + n + ")", x -> x.type(bits, n), want);
     }
 
+    /** For an n that BAD and FULL both fit. */
+    Run typeRefused(long bits, int n) {
+        return refused("type(" + bits + ", " + n + ")", x -> x.type(bits, n));
+    }
+
     Run build(int want) {
         return call("build()", x -> x.build(), want);
     }
@@ -76,6 +81,11 @@ final class Run {
         return call("extend(" + b + ")", x -> x.extend(b), want);
     }
 
+    /** For a b that BAD and FULL both fit. */
+    Run extendRefused(int b) {
+        return refused("extend(" + b + ")", x -> x.extend(b));
+    }
+
     Run before(int want) {
         return call("before()", x -> x.before(), want);
     }
@@ -94,8 +104,18 @@ final class Run {
 
     private Run call(String shown, ToIntFunction<ColumnIndex> call, int want) {
         int got = play(call);
-        due.same(name + ", call " + calls.size() + ": " + shown, got, want);
+        due.same(shownHere(shown), got, want);
         return this;
+    }
+
+    private Run refused(String shown, ToIntFunction<ColumnIndex> call) {
+        int got = play(call);
+        due.refused(shownHere(shown), got);
+        return this;
+    }
+
+    private String shownHere(String call) {
+        return name + ", call " + calls.size() + ": " + call;
     }
 
     private int play(ToIntFunction<ColumnIndex> call) {

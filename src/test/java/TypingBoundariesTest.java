@@ -80,11 +80,20 @@ public final class TypingBoundariesTest {
         Run nothing = run("2: BAD when n is not 1 .. 8, nothing typed");
         Run some = run("2: BAD when n is not 1 .. 8, some typed").text("ab").pattern("b").typed("xyz");
         for (int n : Outside.of(1, 8)) {
-            nothing.type(ONE_TO_EIGHT, n, BAD);
-            some.type(ONE_TO_EIGHT, n, BAD);
+            typeOfAnotherNumber(nothing, 0, n);
+            typeOfAnotherNumber(some, 3, n);
         }
         nothing.leaves("", "", "");
         some.leaves("ab", "b", "xyz").type(ONE_TO_EIGHT, 1, 4).leaves("ab", "b", "xyz\u0008");
+    }
+
+    /** Where there would be more than 96, too, both refusals fit, and the document names no order of the two. */
+    private static void typeOfAnotherNumber(Run run, int typed, int n) {
+        if (n > 96 - typed) {
+            run.typeRefused(ONE_TO_EIGHT, n);
+        } else {
+            run.type(ONE_TO_EIGHT, n, BAD);
+        }
     }
 
     private static void typeTakesLowestBytesHighestFirst() {
@@ -128,13 +137,13 @@ public final class TypingBoundariesTest {
         almost.leaves("", "", RISING.substring(1)).type(ONE_TO_EIGHT, 1, 96);
     }
 
-    /** For n = 0 at 96 typed there would be no more than 96; where both refusals fit, BAD stands first in the document. */
+    /** For n = 0 at 96 typed, and for n = 9 at 87, there would be no more than 96. */
     private static void typeOfAnotherNumberIsBadThoughThereWouldBeRoom() {
         run("2: BAD when n is 0, 96 typed").typed(RISING).type(ONE_TO_EIGHT, 0, BAD).type(ONE_TO_EIGHT, -1, BAD)
                 .leaves("", "", RISING);
         run("2: BAD when n is 9, 87 typed").typed(RISING.substring(9)).type(ONE_TO_EIGHT, 9, BAD)
                 .leaves("", "", RISING.substring(9));
-        run("2: BAD when n is 9, 88 typed").typed(RISING.substring(8)).type(ONE_TO_EIGHT, 9, BAD)
+        run("2: BAD or FULL when n is 9, 88 typed").typed(RISING.substring(8)).typeRefused(ONE_TO_EIGHT, 9)
                 .leaves("", "", RISING.substring(8)).type(ONE_TO_EIGHT, 8, 96);
     }
 
